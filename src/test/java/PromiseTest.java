@@ -269,10 +269,14 @@ public final class PromiseTest {
     }
     x.clear();
     x.width(8);
-    for (int k = 0; k < 64; k++) {
+    for (int k = 0; k < 63; k++) {
       x.add(k, 7);
       x.add(k + 100, 1);
     }
+    due.is("P7 63 groups", x.encode(), 1 + 504);
+    due.is("P7 63 groups, the head", x.output(0), 127);
+    x.add(63, 7);
+    x.add(163, 1);
     due.is("P7 64 groups", x.encode(), 2 + 512);
     due.is("P7 64 groups, the head", x.output(0), 0x81);
     due.is("P7 64 groups, the head's end", x.output(1), 1);
