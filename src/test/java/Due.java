@@ -1,3 +1,5 @@
+import java.util.Arrays;
+
 /** Counts the answers of a test and prints those that are not the ones due. */
 final class Due {
   private final String test;
@@ -26,6 +28,62 @@ final class Due {
       System.out.println(test + ": " + what + ": " + got + ", due is " + want);
     }
     is(what, got.equals(want), true);
+  }
+
+  /** The row is WRITTEN, as these bytes. */
+  void written(String what, RunRows x, int... bytes) {
+    is(what + ", how many", x.encode(), bytes.length);
+    for (int k = 0; k < bytes.length; k++) {
+      is(what + ", byte " + k, x.output(k), bytes[k]);
+    }
+    is(what + ", behind the last", x.output(bytes.length), RunRows.NONE);
+  }
+
+  /** The row holds these numbers. */
+  void row(String what, RunRows x, int... numbers) {
+    is(what + ", size", x.size(), numbers.length);
+    for (int k = 0; k < numbers.length; k++) {
+      is(what + ", value " + k, x.value(k), numbers[k]);
+    }
+    is(what + ", behind the last", x.value(numbers.length), 0);
+  }
+
+  /** These bytes are READ as n numbers by a new object, with this answer. */
+  RunRows read(String what, int w, int n, int want, int... bytes) {
+    RunRows x = new RunRows();
+    x.width(w);
+    putIn(x, bytes);
+    is(what, x.decode(n), want);
+    return x;
+  }
+
+  /** These bytes become the INPUT, by way of the tape, which must be empty. */
+  void putIn(RunRows x, int... bytes) {
+    feedAll(x, bytes);
+    is("end", x.end(bytes.length), true);
+  }
+
+  /** These bytes come onto the tape, and some of 0 behind them to make full twenties. */
+  void feedAll(RunRows x, int... bytes) {
+    int[] words = new int[(bytes.length + 19) / 20 * 5];
+    for (int k = 0; k < bytes.length; k++) {
+      words[k / 4] |= bytes[k] << 24 - 8 * (k % 4);
+    }
+    for (int k = 0; k < words.length; k += 5) {
+      is("feed", x.feed(words[k], words[k + 1], words[k + 2], words[k + 3], words[k + 4]), true);
+    }
+  }
+
+  /** GROUPS of WIDTH 1, up to 8191 of them, with 1 and 0 in turn. */
+  static int[] alternating(int groups) {
+    int head = groups * 2 + 1;
+    int[] bytes = new int[groups + (head < 128 ? 1 : 2)];
+    Arrays.fill(bytes, 0x55);
+    bytes[0] = head < 128 ? head : head & 127 | 128;
+    if (head >= 128) {
+      bytes[1] = head >> 7;
+    }
+    return bytes;
   }
 
   void end() {

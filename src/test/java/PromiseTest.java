@@ -198,57 +198,57 @@ public final class PromiseTest {
     RunRows x = new RunRows();
     x.width(32);
     x.add(0x87654321, 8);
-    written("P7 eight are a run", x, 16, 0x21, 0x43, 0x65, 0x87);
+    due.written("P7 eight are a run", x, 16, 0x21, 0x43, 0x65, 0x87);
     x.add(0x87654321, 55);
-    written("P7 a head of one byte", x, 126, 0x21, 0x43, 0x65, 0x87);
+    due.written("P7 a head of one byte", x, 126, 0x21, 0x43, 0x65, 0x87);
     x.add(0x87654321, 1);
-    written("P7 a head of two bytes", x, 0x80, 1, 0x21, 0x43, 0x65, 0x87);
+    due.written("P7 a head of two bytes", x, 0x80, 1, 0x21, 0x43, 0x65, 0x87);
     x.clear();
     x.width(9);
     x.add(257, 4096);
-    written("P7 the longest run", x, 0x80, 0x40, 1, 1);
+    due.written("P7 the longest run", x, 0x80, 0x40, 1, 1);
     x.clear();
     x.width(17);
     x.add(0x1ABCD, 8);
     x.add(2, 9);
-    written("P7 run behind run", x, 16, 0xCD, 0xAB, 1, 18, 2, 0, 0);
+    due.written("P7 run behind run", x, 16, 0xCD, 0xAB, 1, 18, 2, 0, 0);
     x.clear();
     x.width(0);
     x.add(0, 8);
-    written("P7 no bytes of WIDTH 0", x, 16);
+    due.written("P7 no bytes of WIDTH 0", x, 16);
     x.clear();
     x.add(0, 7);
-    written("P7 a group of WIDTH 0", x, 3);
+    due.written("P7 a group of WIDTH 0", x, 3);
   }
 
   private static void encodeGroups() {
     RunRows x = new RunRows();
     x.width(8);
     x.add(5, 7);
-    written("P7 seven are none", x, 3, 5, 5, 5, 5, 5, 5, 5, 0);
+    due.written("P7 seven are none", x, 3, 5, 5, 5, 5, 5, 5, 5, 0);
     x.add(6, 1);
-    written("P7 a whole group", x, 3, 5, 5, 5, 5, 5, 5, 5, 6);
+    due.written("P7 a whole group", x, 3, 5, 5, 5, 5, 5, 5, 5, 6);
     x.add(7, 7);
-    written("P7 seven behind a group", x, 5, 5, 5, 5, 5, 5, 5, 5, 6, 7, 7, 7, 7, 7, 7, 7, 0);
+    due.written("P7 seven behind a group", x, 5, 5, 5, 5, 5, 5, 5, 5, 6, 7, 7, 7, 7, 7, 7, 7, 0);
     x.add(7, 1);
-    written("P7 eight behind a group", x, 3, 5, 5, 5, 5, 5, 5, 5, 6, 16, 7);
+    due.written("P7 eight behind a group", x, 3, 5, 5, 5, 5, 5, 5, 5, 6, 16, 7);
     x.add(8, 1);
-    written("P7 a group behind a run", x, 3, 5, 5, 5, 5, 5, 5, 5, 6, 16, 7, 3, 8, 0, 0, 0, 0, 0, 0, 0);
+    due.written("P7 a group behind a run", x, 3, 5, 5, 5, 5, 5, 5, 5, 6, 16, 7, 3, 8, 0, 0, 0, 0, 0, 0, 0);
     x.clear();
     x.add(1, 1);
     x.add(2, 14);
-    written("P7 a run that no group begins with", x, 5, 1, 2, 2, 2, 2, 2, 2, 2, 2, 2, 2, 2, 2, 2, 2, 0);
+    due.written("P7 a run that no group begins with", x, 5, 1, 2, 2, 2, 2, 2, 2, 2, 2, 2, 2, 2, 2, 2, 2, 0);
     x.add(2, 1);
-    written("P7 a group begins with the rest of a run", x, 3, 1, 2, 2, 2, 2, 2, 2, 2, 16, 2);
+    due.written("P7 a group begins with the rest of a run", x, 3, 1, 2, 2, 2, 2, 2, 2, 2, 16, 2);
     x.clear();
     x.add(0, 3);
-    written("P7 what stands for none is no run of 0", x, 3, 0, 0, 0, 0, 0, 0, 0, 0);
+    due.written("P7 what stands for none is no run of 0", x, 3, 0, 0, 0, 0, 0, 0, 0, 0);
     x.clear();
     x.width(3);
     for (int k = 0; k < 8; k++) {
       x.add(k, 1);
     }
-    written("P7 the bits of a group", x, 3, 0x88, 0xC6, 0xFA);
+    due.written("P7 the bits of a group", x, 3, 0x88, 0xC6, 0xFA);
   }
 
   private static void encodeEdges() {
@@ -257,7 +257,7 @@ public final class PromiseTest {
     due.is("P7 no byte", x.output(0), RunRows.NONE);
     x.width(1);
     x.add(0, 1);
-    written("P7 one number", x, 3, 0);
+    due.written("P7 one number", x, 3, 0);
     x.clear();
     x.width(32);
     x.add(Integer.MIN_VALUE, 1);
@@ -304,32 +304,24 @@ public final class PromiseTest {
     due.is("P7 32 bits fit 32", x.encode(), 33);
   }
 
-  private static void written(String what, RunRows x, int... bytes) {
-    due.is(what + ", how many", x.encode(), bytes.length);
-    for (int k = 0; k < bytes.length; k++) {
-      due.is(what + ", byte " + k, x.output(k), bytes[k]);
-    }
-    due.is(what + ", behind the last", x.output(bytes.length), RunRows.NONE);
-  }
-
   // ---- Promise 8
 
   private static void decodeOrdinary() {
-    RunRows x = read("P8 ONE once", 8, 1, 0, 2, 200);
-    row("P8 ONE once", x, 200);
-    x = read("P8 ONE of 32 bits", 32, 2, 0, 4, 0x21, 0x43, 0x65, 0x87);
-    row("P8 ONE of 32 bits", x, 0x87654321, 0x87654321);
-    x = read("P8 ONE, a group, ONE", 3, 11, 0, 4, 7, 3, 0x88, 0xC6, 0xFA, 2, 1);
-    row("P8 ONE, a group, ONE", x, 7, 7, 0, 1, 2, 3, 4, 5, 6, 7, 1);
-    x = read("P8 a last group in part", 3, 3, 0, 3, 0xD1, 0, 0);
-    row("P8 a last group in part", x, 1, 2, 3);
-    x = read("P8 two heads of one group", 1, 16, 0, 3, 0xA5, 3, 0x0F);
-    row("P8 two heads of one group", x, 1, 0, 1, 0, 0, 1, 0, 1, 1, 1, 1, 1, 0, 0, 0, 0);
-    x = read("P8 a group of 32 bits", 32, 2, 0, 3, 0, 0, 0, 0x80, 0xFF, 0xFF, 0xFF, 0x7F,
+    RunRows x = due.read("P8 ONE once", 8, 1, 0, 2, 200);
+    due.row("P8 ONE once", x, 200);
+    x = due.read("P8 ONE of 32 bits", 32, 2, 0, 4, 0x21, 0x43, 0x65, 0x87);
+    due.row("P8 ONE of 32 bits", x, 0x87654321, 0x87654321);
+    x = due.read("P8 ONE, a group, ONE", 3, 11, 0, 4, 7, 3, 0x88, 0xC6, 0xFA, 2, 1);
+    due.row("P8 ONE, a group, ONE", x, 7, 7, 0, 1, 2, 3, 4, 5, 6, 7, 1);
+    x = due.read("P8 a last group in part", 3, 3, 0, 3, 0xD1, 0, 0);
+    due.row("P8 a last group in part", x, 1, 2, 3);
+    x = due.read("P8 two heads of one group", 1, 16, 0, 3, 0xA5, 3, 0x0F);
+    due.row("P8 two heads of one group", x, 1, 0, 1, 0, 0, 1, 0, 1, 1, 1, 1, 1, 0, 0, 0, 0);
+    x = due.read("P8 a group of 32 bits", 32, 2, 0, 3, 0, 0, 0, 0x80, 0xFF, 0xFF, 0xFF, 0x7F,
         0, 0, 0, 0, 0, 0, 0, 0, 0, 0, 0, 0, 0, 0, 0, 0, 0, 0, 0, 0, 0, 0, 0, 0);
-    row("P8 a group of 32 bits", x, Integer.MIN_VALUE, Integer.MAX_VALUE);
-    x = read("P8 WIDTH 0", 0, 13, 0, 10, 3);
-    row("P8 WIDTH 0", x, 0, 0, 0, 0, 0, 0, 0, 0, 0, 0, 0, 0, 0);
+    due.row("P8 a group of 32 bits", x, Integer.MIN_VALUE, Integer.MAX_VALUE);
+    x = due.read("P8 WIDTH 0", 0, 13, 0, 10, 3);
+    due.row("P8 WIDTH 0", x, 0, 0, 0, 0, 0, 0, 0, 0, 0, 0, 0, 0, 0);
   }
 
   private static void decodeEdges() {
@@ -341,22 +333,22 @@ public final class PromiseTest {
     x.add(5, 3);
     due.is("P8 decode(0)", x.decode(0), 0);
     due.is("P8 no number becomes the row", x.size(), 0);
-    read("P8 none, but a byte", 8, 0, MORE, 0);
-    x = read("P8 4096 by one run", 8, 4096, 0, 0x80, 0x40, 9);
+    due.read("P8 none, but a byte", 8, 0, MORE, 0);
+    x = due.read("P8 4096 by one run", 8, 4096, 0, 0x80, 0x40, 9);
     due.is("P8 4096 by one run, size", x.size(), 4096);
     due.is("P8 4096 by one run, the last", x.value(4095), 9);
     due.is("P8 the INPUT stays", x.decode(4096), 0);
     due.is("P8 4097 of the same INPUT", x.decode(4097), RunRows.NONE);
     due.is("P8 4095 of the same INPUT", x.decode(4095), MANY);
-    x = read("P8 512 groups of WIDTH 0", 0, 4096, 0, 0x81, 0x08);
+    x = due.read("P8 512 groups of WIDTH 0", 0, 4096, 0, 0x81, 0x08);
     due.is("P8 512 groups of WIDTH 0, size", x.size(), 4096);
     due.is("P8 512 groups, the last one not needed", x.decode(4088), MANY);
     due.is("P8 512 groups, the last one in part", x.decode(4089), 0);
     due.is("P8 size 4089", x.size(), 4089);
-    read("P8 513 groups of WIDTH 0", 0, 4096, MANY, 0x83, 0x08);
+    due.read("P8 513 groups of WIDTH 0", 0, 4096, MANY, 0x83, 0x08);
     x.width(4);
     due.is("P8 the WIDTH is the one of now", x.decode(4096), CUT);
-    x = read("P8 WIDTH 4", 4, 8, 0, 3, 0x21, 0x43, 0x65, 0x87);
+    x = due.read("P8 WIDTH 4", 4, 8, 0, 3, 0x21, 0x43, 0x65, 0x87);
     x.width(2);
     due.is("P8 WIDTH 2 of the same INPUT", x.decode(8), MORE);
     x.width(5);
@@ -364,55 +356,55 @@ public final class PromiseTest {
   }
 
   private static void decodeHeads() {
-    read("P8 no byte", 8, 1, CUT);
-    read("P8 a head without its end", 8, 1, CUT, 0x80);
-    read("P8 a head of nine without its end", 8, 1, CUT, 0x80, 0x80, 0x80, 0x80, 0x80, 0x80, 0x80, 0x80, 0x80);
-    read("P8 a byte more than it takes", 8, 1, VARINT, 0x82, 0);
-    read("P8 two bytes more than it takes", 8, 1, VARINT, 0x82, 0x80, 0);
-    read("P8 0 in two bytes", 8, 1, VARINT, 0x80, 0);
-    read("P8 1 in two bytes", 8, 1, VARINT, 0x81, 0);
-    read("P8 0 in ten bytes", 8, 1, VARINT, 0x80, 0x80, 0x80, 0x80, 0x80, 0x80, 0x80, 0x80, 0x80, 0);
-    read("P8 2^63", 8, 4096, MANY, 0x80, 0x80, 0x80, 0x80, 0x80, 0x80, 0x80, 0x80, 0x80, 1);
-    read("P8 2^63 + 1", 8, 4096, MANY, 0x81, 0x80, 0x80, 0x80, 0x80, 0x80, 0x80, 0x80, 0x80, 1);
-    read("P8 2^64 - 1", 8, 4096, MANY, 255, 255, 255, 255, 255, 255, 255, 255, 255, 1);
-    read("P8 2^64", 8, 4096, VARINT, 0x80, 0x80, 0x80, 0x80, 0x80, 0x80, 0x80, 0x80, 0x80, 2);
-    read("P8 a bit 69", 8, 4096, VARINT, 0x80, 0x80, 0x80, 0x80, 0x80, 0x80, 0x80, 0x80, 0x80, 0x40);
-    read("P8 2^64 is known at the tenth byte", 8, 1, VARINT, 255, 255, 255, 255, 255, 255, 255, 255, 255, 0x82);
-    read("P8 an eleventh byte is told by the tenth", 8, 1, VARINT, 128, 128, 128, 128, 128, 128, 128, 128, 128, 128);
-    read("P8 eleven bytes", 8, 1, VARINT, 128, 128, 128, 128, 128, 128, 128, 128, 128, 0x81, 0);
-    read("P8 2^32 + 2 times isn't twice", 8, 4096, MANY, 0x84, 0x80, 0x80, 0x80, 0x20, 7);
-    read("P8 2^32 + 1 groups aren't one", 0, 8, MANY, 0x83, 0x80, 0x80, 0x80, 0x20);
+    due.read("P8 no byte", 8, 1, CUT);
+    due.read("P8 a head without its end", 8, 1, CUT, 0x80);
+    due.read("P8 a head of nine without its end", 8, 1, CUT, 0x80, 0x80, 0x80, 0x80, 0x80, 0x80, 0x80, 0x80, 0x80);
+    due.read("P8 a byte more than it takes", 8, 1, VARINT, 0x82, 0);
+    due.read("P8 two bytes more than it takes", 8, 1, VARINT, 0x82, 0x80, 0);
+    due.read("P8 0 in two bytes", 8, 1, VARINT, 0x80, 0);
+    due.read("P8 1 in two bytes", 8, 1, VARINT, 0x81, 0);
+    due.read("P8 0 in ten bytes", 8, 1, VARINT, 0x80, 0x80, 0x80, 0x80, 0x80, 0x80, 0x80, 0x80, 0x80, 0);
+    due.read("P8 2^63", 8, 4096, MANY, 0x80, 0x80, 0x80, 0x80, 0x80, 0x80, 0x80, 0x80, 0x80, 1);
+    due.read("P8 2^63 + 1", 8, 4096, MANY, 0x81, 0x80, 0x80, 0x80, 0x80, 0x80, 0x80, 0x80, 0x80, 1);
+    due.read("P8 2^64 - 1", 8, 4096, MANY, 255, 255, 255, 255, 255, 255, 255, 255, 255, 1);
+    due.read("P8 2^64", 8, 4096, VARINT, 0x80, 0x80, 0x80, 0x80, 0x80, 0x80, 0x80, 0x80, 0x80, 2);
+    due.read("P8 a bit 69", 8, 4096, VARINT, 0x80, 0x80, 0x80, 0x80, 0x80, 0x80, 0x80, 0x80, 0x80, 0x40);
+    due.read("P8 2^64 is known at the tenth byte", 8, 1, VARINT, 255, 255, 255, 255, 255, 255, 255, 255, 255, 0x82);
+    due.read("P8 an eleventh byte is told by the tenth", 8, 1, VARINT, 128, 128, 128, 128, 128, 128, 128, 128, 128, 128);
+    due.read("P8 eleven bytes", 8, 1, VARINT, 128, 128, 128, 128, 128, 128, 128, 128, 128, 0x81, 0);
+    due.read("P8 2^32 + 2 times isn't twice", 8, 4096, MANY, 0x84, 0x80, 0x80, 0x80, 0x20, 7);
+    due.read("P8 2^32 + 1 groups aren't one", 0, 8, MANY, 0x83, 0x80, 0x80, 0x80, 0x20);
   }
 
   private static void decodeFaultsInOrder() {
-    read("P8 EMPTY 0", 8, 1, EMPTY, 0);
-    read("P8 EMPTY 1", 8, 1, EMPTY, 1, 5, 5);
-    read("P8 EMPTY behind a run", 8, 2, EMPTY, 2, 5, 1);
-    read("P8 MANY before CUT", 8, 1, MANY, 4);
-    read("P8 MANY groups before CUT", 8, 8, MANY, 5);
-    read("P8 MANY before BITS", 1, 1, MANY, 4, 255);
-    read("P8 MANY of what is still missing", 8, 3, MANY, 4, 5, 4, 5);
-    read("P8 MANY groups for what is still missing", 1, 10, MANY, 4, 1, 5, 0, 0);
-    read("P8 the number is cut", 9, 1, CUT, 2, 255);
-    read("P8 the number isn't there", 9, 1, CUT, 2);
-    read("P8 the groups are cut", 2, 16, CUT, 5, 255, 255, 255);
-    read("P8 CUT before BITS", 2, 9, CUT, 5, 255, 255, 255);
-    read("P8 numbers are missing at the end", 8, 2, CUT, 2, 5);
-    read("P8 BITS of a number", 3, 1, BITS, 2, 8);
-    read("P8 the highest bit of its byte", 7, 1, BITS, 2, 0x80);
-    read("P8 BITS of 9", 9, 1, BITS, 2, 0, 2);
-    read("P8 BITS of 31", 31, 1, BITS, 2, 0, 0, 0, 0x80);
-    read("P8 no BITS of 31", 31, 1, 0, 2, 255, 255, 255, 0x7F);
-    read("P8 BITS of what stands for none", 1, 3, BITS, 3, 0x0F);
-    read("P8 BITS of the very last one", 1, 7, BITS, 3, 0x80);
-    read("P8 no BITS there", 1, 7, 0, 3, 0x7F);
-    read("P8 BITS of a second group", 1, 9, BITS, 5, 255, 2);
-    read("P8 BITS before MORE", 3, 1, BITS, 2, 8, 9);
-    read("P8 BITS of the first run before the next one", 3, 2, BITS, 2, 8, 0);
-    read("P8 BITS of an earlier group run", 1, 3, BITS, 3, 0xFF, 0);
-    read("P8 MORE", 8, 1, MORE, 2, 5, 0);
-    read("P8 MORE behind groups", 1, 8, MORE, 3, 5, 2);
-    read("P8 MORE is a cut head too", 8, 1, MORE, 2, 5, 0x80);
+    due.read("P8 EMPTY 0", 8, 1, EMPTY, 0);
+    due.read("P8 EMPTY 1", 8, 1, EMPTY, 1, 5, 5);
+    due.read("P8 EMPTY behind a run", 8, 2, EMPTY, 2, 5, 1);
+    due.read("P8 MANY before CUT", 8, 1, MANY, 4);
+    due.read("P8 MANY groups before CUT", 8, 8, MANY, 5);
+    due.read("P8 MANY before BITS", 1, 1, MANY, 4, 255);
+    due.read("P8 MANY of what is still missing", 8, 3, MANY, 4, 5, 4, 5);
+    due.read("P8 MANY groups for what is still missing", 1, 10, MANY, 4, 1, 5, 0, 0);
+    due.read("P8 the number is cut", 9, 1, CUT, 2, 255);
+    due.read("P8 the number isn't there", 9, 1, CUT, 2);
+    due.read("P8 the groups are cut", 2, 16, CUT, 5, 255, 255, 255);
+    due.read("P8 CUT before BITS", 2, 9, CUT, 5, 255, 255, 255);
+    due.read("P8 numbers are missing at the end", 8, 2, CUT, 2, 5);
+    due.read("P8 BITS of a number", 3, 1, BITS, 2, 8);
+    due.read("P8 the highest bit of its byte", 7, 1, BITS, 2, 0x80);
+    due.read("P8 BITS of 9", 9, 1, BITS, 2, 0, 2);
+    due.read("P8 BITS of 31", 31, 1, BITS, 2, 0, 0, 0, 0x80);
+    due.read("P8 no BITS of 31", 31, 1, 0, 2, 255, 255, 255, 0x7F);
+    due.read("P8 BITS of what stands for none", 1, 3, BITS, 3, 0x0F);
+    due.read("P8 BITS of the very last one", 1, 7, BITS, 3, 0x80);
+    due.read("P8 no BITS there", 1, 7, 0, 3, 0x7F);
+    due.read("P8 BITS of a second group", 1, 9, BITS, 5, 255, 2);
+    due.read("P8 BITS before MORE", 3, 1, BITS, 2, 8, 9);
+    due.read("P8 BITS of the first run before the next one", 3, 2, BITS, 2, 8, 0);
+    due.read("P8 BITS of an earlier group run", 1, 3, BITS, 3, 0xFF, 0);
+    due.read("P8 MORE", 8, 1, MORE, 2, 5, 0);
+    due.read("P8 MORE behind groups", 1, 8, MORE, 3, 5, 2);
+    due.read("P8 MORE is a cut head too", 8, 1, MORE, 2, 5, 0x80);
   }
 
   private static void decodeLeavesTheRow() {
@@ -423,46 +415,19 @@ public final class PromiseTest {
     int[][] faulty = {{}, {0x82, 0}, {2, 1, 1}, {2, 1, 0x40}, {2, 1, 2}, {6, 1, 0}, {3, 0xFF}, {2, 1, 2, 2}};
     int[] faults = {CUT, VARINT, EMPTY, MANY, CUT, MORE, BITS, BITS};
     for (int k = 0; k < faulty.length; k++) {
-      putIn(x, faulty[k]);
+      due.putIn(x, faulty[k]);
       due.is("P8 fault of input " + k, x.decode(3), faults[k]);
-      row("P8 the row stays, input " + k, x, 77, 77, 88);
+      due.row("P8 the row stays, input " + k, x, 77, 77, 88);
     }
     due.is("P8 decode(-1)", x.decode(-1), RunRows.NONE);
-    row("P8 the row stays, decode(-1)", x, 77, 77, 88);
-    putIn(x, 2, 1);
+    due.row("P8 the row stays, decode(-1)", x, 77, 77, 88);
+    due.putIn(x, 2, 1);
     due.is("P8 a good one", x.decode(1), 0);
-    row("P8 becomes the row", x, 1);
+    due.row("P8 becomes the row", x, 1);
     x.add(5, 1);
     due.is("P8 another good one", x.decode(1), 0);
-    row("P8 becomes the row again", x, 1);
+    due.row("P8 becomes the row again", x, 1);
     due.is("P8 the output stays", x.output(0), RunRows.NONE);
-  }
-
-  private static RunRows read(String what, int w, int n, int want, int... bytes) {
-    RunRows x = new RunRows();
-    x.width(w);
-    putIn(x, bytes);
-    due.is(what, x.decode(n), want);
-    return x;
-  }
-
-  private static void putIn(RunRows x, int... bytes) {
-    int[] words = new int[(bytes.length + 19) / 20 * 5];
-    for (int k = 0; k < bytes.length; k++) {
-      words[k / 4] |= bytes[k] << 24 - 8 * (k % 4);
-    }
-    for (int k = 0; k < words.length; k += 5) {
-      due.is("feed", x.feed(words[k], words[k + 1], words[k + 2], words[k + 3], words[k + 4]), true);
-    }
-    due.is("end", x.end(bytes.length), true);
-  }
-
-  private static void row(String what, RunRows x, int... numbers) {
-    due.is(what + ", size", x.size(), numbers.length);
-    for (int k = 0; k < numbers.length; k++) {
-      due.is(what + ", value " + k, x.value(k), numbers[k]);
-    }
-    due.is(what + ", behind the last", x.value(numbers.length), 0);
   }
 
   // ---- Promise 9
@@ -513,18 +478,10 @@ public final class PromiseTest {
   private static RunRows rowOf2040() {
     RunRows x = new RunRows();
     x.width(1);
-    putIn(x, alternating(255));
+    due.putIn(x, Due.alternating(255));
     due.is("255 groups of bits", x.decode(2040), 0);
     x.width(32);
     return x;
-  }
-
-  private static int[] alternating(int groups) {
-    int[] bytes = new int[groups + 2];
-    bytes[0] = (groups * 2 + 1) & 127 | 128;
-    bytes[1] = (groups * 2 + 1) >> 7;
-    java.util.Arrays.fill(bytes, 2, bytes.length, 0x55);
-    return bytes;
   }
 
   // ---- Promises 10 and 11
@@ -574,7 +531,7 @@ public final class PromiseTest {
   private static void outputLongest() {
     RunRows x = new RunRows();
     x.width(1);
-    putIn(x, alternating(512));
+    due.putIn(x, Due.alternating(512));
     due.is("P12 512 groups of bits", x.decode(4096), 0);
     x.width(32);
     due.is("P12 the longest output", x.encode(), 16386);
