@@ -2,12 +2,28 @@ import java.util.Arrays;
 
 /** Counts the answers of a test and prints those that are not the ones due. */
 final class Due {
+  private static final long MOST_MILLISECONDS = 300_000;
+
   private final String test;
   private int right = 0;
   private int wrong = 0;
 
   Due(String test) {
     this.test = test;
+    Thread watch = new Thread(this::failIfEndless);
+    watch.setDaemon(true);
+    watch.start();
+  }
+
+  // A call that never ends must fail the test too, not hold it up for ever; a test takes some seconds.
+  private void failIfEndless() {
+    try {
+      Thread.sleep(MOST_MILLISECONDS);
+      System.out.println(test + ": did not end");
+    } catch (InterruptedException e) {
+      System.out.println(test + ": was broken off");
+    }
+    Runtime.getRuntime().halt(1);
   }
 
   void is(String what, long got, long want) {
