@@ -27,10 +27,11 @@ public final class RunRows {
     private static final int MORE = 6;
 
     private final Bytes tape = new Bytes(MOST_INPUT);
-    private final Bytes input = new Bytes(MOST_INPUT);
-    private final Bytes output = new Bytes(MOST_OUTPUT);
-    private final Writer writer = new Writer(output);
-    private final Reader reader = new Reader(input);
+    private final Writer writer = new Writer();
+    private final Reader reader = new Reader();
+    // The writer and the reader make these, so that no constructor hands out a part of its object.
+    private final Bytes output = writer.to;
+    private final Bytes input = reader.from;
     private Row row = new Row();
     private Row spare = new Row();
     private int width = 0;
@@ -226,11 +227,7 @@ public final class RunRows {
 
     /** Writes a row as RUNS. */
     private static final class Writer {
-        private final Bytes to;
-
-        Writer(Bytes to) {
-            this.to = to;
-        }
+        private final Bytes to = new Bytes(MOST_OUTPUT);
 
         void write(Row row, int width) {
             int at = 0;
@@ -297,13 +294,9 @@ public final class RunRows {
 
     /** Reads RUNS into a row, up to the first fault. */
     private static final class Reader {
-        private final Bytes from;
+        private final Bytes from = new Bytes(MOST_INPUT);
         private int at = 0;
         private long head = 0;
-
-        Reader(Bytes from) {
-            this.from = from;
-        }
 
         int read(Row into, int width, int n) {
             at = 0;
