@@ -9,7 +9,7 @@ import java.util.Set;
 import java.util.stream.Collectors;
 import java.util.stream.Stream;
 
-/** The rules of LANGUAGE.md that can be seen in the compiled class; FaceTest has the face. */
+/** What reflection can see of rules 1, 5, 11 and 12 of LANGUAGE.md; FaceTest has the face. */
 public final class LanguageTest {
   private static final int MOST_CLASSES = 12;
   private static final int MOST_FIELDS = 20;
